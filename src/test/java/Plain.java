@@ -156,8 +156,7 @@ final class Plain {
   /** The NEAR ones: from all pairs of a lower number and a nearest upper one, those that beat all ahead strictly. */
   private static List<String> nearRow(int top, int bottom) {
     List<String> row = new ArrayList<>();
-    double never = Double.MAX_VALUE;
-    long bestUpper = (long) never;
+    long bestUpper = Long.MAX_VALUE;
     long bestLower = 1;
     for (int b = 1; b <= bottom; b++) {
       long a = (long) top * b / bottom;
@@ -212,8 +211,7 @@ final class Plain {
     long ba = 0;
     long bb = 1;
     for (long b = 1; b <= most; b++) {
-      long a = 0;
-      a = top * b / bottom;
+      long a = top * b / bottom;
       if (a * bb > ba * b) {
         ba = a;
         bb = b;

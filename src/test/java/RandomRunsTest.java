@@ -5,7 +5,10 @@ import java.util.Arrays;
 import java.util.List;
 import java.util.Random;
 
-/** Runs of random calls, each answer held against Plain; the seeds are fixed, so a run is always the same. */
+/**
+ * Runs of random calls, each answer held against Plain; the seeds are fixed, so a run is always the same.
+ * With arguments: how many runs, and the first seed.
+ */
 public final class RandomRunsTest {
   private static final int RUNS = 120;
   private static final int CALLS = 500;
@@ -29,7 +32,9 @@ public final class RandomRunsTest {
     }
     methods.sort((a, b) -> a.getName().compareTo(b.getName()));
     Check.is("methods of the face", methods.size(), 55);
-    for (int run = 0; run < RUNS; run++) {
+    int runs = args.length > 0 ? Integer.parseInt(args[0]) : RUNS;
+    int first = args.length > 1 ? Integer.parseInt(args[1]) : 0;
+    for (int run = first; run < first + runs; run++) {
       new RandomRunsTest(run).go(run, methods);
     }
     Check.end("RandomRunsTest");

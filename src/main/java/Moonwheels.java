@@ -1214,18 +1214,16 @@ public final class Moonwheels {
     boolean areSound() {
       for (int i = 0; i < count; i++) {
         for (int j = i + 1; j < count; j++) {
-          if (!neverMeet(i, j) && !isMeetingSound(i, j)) {
-            return false;
+          if (!neverMeet(i, j)) {
+            seekMeeting(1 << i | 1 << j, 0);
+            long first = moment.small();
+            if (first < 0 || meetsFrom(i, first) != first || meetsFrom(j, first) != first) {
+              return false;
+            }
           }
         }
       }
       return true;
-    }
-
-    private boolean isMeetingSound(int i, int j) {
-      seekMeeting(1 << i | 1 << j, 0);
-      long first = moment.small();
-      return first >= 0 && meetsFrom(i, first) == first && meetsFrom(j, first) == first;
     }
   }
 

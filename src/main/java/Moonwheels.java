@@ -1304,12 +1304,7 @@ public final class Moonwheels {
       if (months > 0) {
         return isLong(year) ? perYear + 1 : perYear;
       }
-      int days = 0;
-      int last = monthsIn(year);
-      for (int month = 1; month <= last; month++) {
-        days += monthDays(year, month);
-      }
-      return days;
+      return (int) (monthStart(year, unitsIn(year) + 1) - monthStart(year, 1));
     }
 
     private void find(long day) {

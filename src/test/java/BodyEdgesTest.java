@@ -24,6 +24,7 @@ public final class BodyEdgesTest {
     manies();
     setRanges();
     meetings();
+    longMeetings();
     nevers();
     agains();
     windows();
@@ -284,6 +285,25 @@ public final class BodyEdgesTest {
     Check.is("beyond 64 bits", six.meet(63, 1), "15466138110042988145000");
     Check.is("beyond 64 bits, again", six.again(63), "15466138110042988145000");
     Check.is("at 0", six.meet(63, -100000), "0");
+  }
+
+  /** Digits beyond 10 to the 12th, where pieces of a number of twelve digits would have to carry or to borrow. */
+  private static void longMeetings() {
+    int[] rounds = {5000, 4999, 4997, 4993, 4987, 4973};
+    String[] moments = {"999999999995", "1000000000000", "1000000000005", "1999999999995", "2000000000000",
+        "2000000000005", "12345678901234567890", "1000000000000000000000", "1000000000000000099999",
+        "999999999999999999999", "15466138110042988144999"};
+    for (String moment : moments) {
+      java.math.BigInteger due = new java.math.BigInteger(moment);
+      Moonwheels x = new Moonwheels();
+      for (int round : rounds) {
+        x.body(round, due.mod(java.math.BigInteger.valueOf(round)).intValue(), 0);
+      }
+      for (int from : new int[] {-100000, -99995, -6, -5, -1, 0, 1, 5, 6, 99999, 100000}) {
+        boolean isBefore = from < 0 && moment.endsWith("88144999");
+        Check.is("meet(63, " + from + ") of " + moment, x.meet(63, from), isBefore ? "-1" : moment);
+      }
+    }
   }
 
   // "never", "the two that prove it, with the smallest first number, then the smallest second one"

@@ -396,8 +396,10 @@ public final class BodyEdgesTest {
     String[] due = {"0:0", "0:1", "0:2", "4:1", "6:0", "8:1", "12:0", "12:1", "12:2"};
     for (int k = 0; k < due.length; k++) {
       Check.is("event(0, " + k + ")", x.event(0, k), due[k]);
-      Check.is("event(-12, " + k + ")", x.event(-12, k),
-          (k < 3 ? "-12" : k == 3 ? "-8" : k == 4 ? "-6" : k == 5 ? "-4" : "0") + due[k].substring(due[k].indexOf(':')));
+      // The same a round of 12 ahead of 0.
+      int colon = due[k].indexOf(':');
+      int moment = Integer.parseInt(due[k].substring(0, colon)) - 12;
+      Check.is("event(-12, " + k + ")", x.event(-12, k), moment + due[k].substring(colon));
     }
     Check.is("just behind a moment", x.event(1, 0), "4:1");
     Check.is("just ahead of one", x.event(-1, 0), "0:0");

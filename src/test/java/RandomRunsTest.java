@@ -72,7 +72,8 @@ public final class RandomRunsTest {
   private void one(int run, int call, Method m) throws Exception {
     Object[] values = new Object[m.getParameterCount()];
     for (int i = 0; i < values.length; i++) {
-      values[i] = m.getParameterTypes()[i] == boolean.class ? (Object) random.nextBoolean() : (Object) value(m, i, values);
+      boolean isFlag = m.getParameterTypes()[i] == boolean.class;
+      values[i] = isFlag ? (Object) random.nextBoolean() : (Object) value(m, i, values);
     }
     Method other = Plain.class.getDeclaredMethod(m.getName(), m.getParameterTypes());
     Object due = answer(other, plain, values);

@@ -10,8 +10,9 @@ import java.util.Random;
  * With arguments: how many runs, and the first seed.
  */
 public final class RandomRunsTest {
-  private static final int RUNS = 120;
-  private static final int CALLS = 500;
+  private static final int RUNS = 240;
+  // An object is used for at most so many calls; a run makes them all.
+  private static final int CALLS = 512;
   private static final String[] CHANGES = {"cut", "body", "retell", "sun", "moon", "sky", "swing", "share", "port",
       "rise", "pieces", "lay", "undo", "lay", "share", "rise"};
 
@@ -45,7 +46,8 @@ public final class RandomRunsTest {
     plain = new Plain();
     // A run has its own taste, so that some fill the house and others look at it.
     int changing = random.nextInt(60);
-    for (int call = 0; call < CALLS / 2; call++) {
+    int used = 0;
+    while (used < CALLS - 1) {
       Method m = methods.get(random.nextInt(methods.size()));
       if (random.nextInt(100) < changing) {
         m = named(methods, CHANGES[random.nextInt(CHANGES.length)]);
@@ -53,10 +55,15 @@ public final class RandomRunsTest {
       if (m.getName().startsWith("train") && random.nextInt(4) > 0) {
         continue;
       }
-      one(run, call, m);
+      one(run, used, m);
+      used++;
       if (random.nextInt(4) == 0) {
-        Check.is("run " + run + ", digest behind call " + call, x.digest(), plain.digest());
+        Check.is("run " + run + ", digest behind call " + used, x.digest(), plain.digest());
+        used++;
       }
+    }
+    if (used < CALLS) {
+      Check.is("run " + run + ", the last call", x.digest(), plain.digest());
     }
   }
 

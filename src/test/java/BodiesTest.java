@@ -12,6 +12,7 @@ public final class BodiesTest {
     retelling();
     moments();
     sets();
+    scannedMeetings();
     longRounds();
     windows();
     events();
@@ -137,6 +138,50 @@ public final class BodiesTest {
     Check.is("again(3)", x.again(3), "12");
     Check.is("again(12)", x.again(12), "72");
     Check.is("isSound with some that never meet", x.isSound(), true);
+  }
+
+  /** By the words, for three BODIES with small ROUNDS: by looking at each moment, without any theorem. */
+  private static void scannedMeetings() {
+    for (int code = 0; code < 6 * 8 * 9; code++) {
+      int[] rounds = {1 + code % 6, 3 + code / 6 % 8, 4 + code / 48};
+      Moonwheels x = new Moonwheels();
+      for (int i = 0; i < 3; i++) {
+        x.body(rounds[i], 0, 0);
+      }
+      for (int turn = 0; turn < 12; turn++) {
+        int[] begins = {turn * 7 % 5 - 2, turn * 5 % 11 - 4, turn * 11 % 13 - 6};
+        for (int i = 0; i < 3; i++) {
+          x.retell(i, rounds[i], begins[i]);
+        }
+        int from = turn * 37 - 200;
+        for (int set : new int[] {3, 5, 6, 7}) {
+          String told = java.util.Arrays.toString(rounds) + java.util.Arrays.toString(begins);
+          Check.is("meet(" + set + ", " + from + ") of " + told, x.meet(set, from), scanned(rounds, begins, set, from));
+        }
+      }
+    }
+  }
+
+  private static String scanned(int[] rounds, int[] begins, int set, int from) {
+    int end = from + rounds[0] * rounds[1] * rounds[2];
+    for (int t = from; t < end; t++) {
+      boolean all = true;
+      for (int i = 0; i < 3; i++) {
+        all &= (set >> i & 1) == 0 || Math.floorMod(t - begins[i], rounds[i]) == 0;
+      }
+      if (all) {
+        return "" + t;
+      }
+    }
+    for (int i = 0; i < 3; i++) {
+      for (int j = i + 1; j < 3; j++) {
+        int two = 1 << i | 1 << j;
+        if ((set & two) == two && (two == set || scanned(rounds, begins, two, from).startsWith("never"))) {
+          return "never " + i + " " + j;
+        }
+      }
+    }
+    return "never, but by no two";
   }
 
   private static void longRounds() {
